@@ -1162,7 +1162,7 @@ public final class ShipOffice {
             this.day = day;
             this.code = code;
             this.stack = new int[code.length + 1];
-            this.plainWorth = run(code, stack, new int[LETTERS.length]);
+            this.plainWorth = worth(new int[LETTERS.length]);
         }
 
         boolean uses(int letter) {
@@ -1175,10 +1175,6 @@ public final class ShipOffice {
         }
 
         int worth(int[] values) {
-            return run(code, stack, values);
-        }
-
-        private static int run(int[] code, int[] stack, int[] values) {
             int top = 0;
             for (int step : code) {
                 if (step > FIRST_SIGN && top < stack.length) {

@@ -58,6 +58,8 @@ public final class PromiseTest {
         leftDiedBack();
         feeding();
         faults();
+        daysAboard();
+        leastSums();
         actsInForce();
         worths();
         letters();
@@ -143,6 +145,7 @@ public final class PromiseTest {
     private static void voyages() {
         begin(5);
         due(x.voyage(-1, 0), -1);
+        due(x.voyage(10, 0), -1);
         due(x.voyage(0, -1), -1);
         due(x.voyage(9, 9), 0);
         due(x.voyage(9, 0), -3);
@@ -378,6 +381,50 @@ public final class PromiseTest {
         }
     }
 
+    /** d and l where the voyage is not known of for a while, and is heard of on day 0 at the last. */
+    private static void daysAboard() {
+        begin(14);
+        signOne(1000);
+        due(act(4, 0, "5"), 1);
+        due(act(1, 0, "d*100+l"), 2);
+        due(x.sailed(0, 0), 1);
+        due(x.days(30), 30);
+        due(x.fine(0, 22, 9999, true), 1);
+        due(x.fine(0, 5, 9999, true), 2);
+        due(x.fine(0, 19, 9999, true), 3);
+        due(x.stands(0, 0, 30), 622);
+        due(x.heard(0, 20), 2);
+        due(x.stands(0, 0, 30), 902);
+        due(x.stands(0, 0, 29), 622);
+        due(x.stands(0, 1, 30), 605);
+        due(x.stands(0, 2, 30), 619);
+    }
+
+    private static void leastSums() {
+        begin(19);
+        signOne(1);
+        due(x.days(100), 100);
+        due(x.advance(0, 1), 1);
+        due(x.owed(0, 29, 100), 1);
+        due(act(3, 100, "100"), 1);
+        due(x.allot(0, 1), 1);
+        due(x.sailed(0, 0), 1);
+        due(x.owed(0, 2, 100), 0);
+        due(x.owed(0, 3, 100), -1);
+        due(x.owed(0, 29, 100), 0);
+        due(x.owed(0, 30, 100), -1);
+        begin(26);
+        signOne(30);
+        due(x.days(1), 1);
+        due(x.left(0, 1, 0, 0), 1);
+        due(x.owed(0, 0, 1), 1);
+        due(x.owed(0, 1, 1), 0);
+        begin(20);
+        signOne(30);
+        due(x.advance(0, 3), 1);
+        due(x.sold(0, 1), 2);
+    }
+
     private static void signing() {
         begin(15);
         due(x.man(1, 11111, -364), 0);
@@ -399,6 +446,7 @@ public final class PromiseTest {
         due(x.sign(1, 0, 1, 0, -1), -3);
         due(act(0, 1, "r-w+d+n+s+l+x+10"), 2);
         due(x.sign(1, 0, 13, 3, -1), -3);
+        due(x.group(1), 1);
         due(x.sign(1, 0, 12, 3, 0), -3);
         due(x.sign(1, 0, 12, 3, -1), 1);
         due(act(0, 1, "1"), 3);
