@@ -2,13 +2,16 @@ import java.util.Random;
 
 /** Runs of 512 calls by chance, of fixed seeds: ShipOffice must answer each as PlainOffice does. */
 public final class ModelTest {
-    private static final int RUNS = 400;
+    private static final int RUNS = 500;
     private static final int CALLS = 512;
     private static final int[] ODD = {-1, -2, -9, Integer.MIN_VALUE, Integer.MAX_VALUE, 10, 60, 200, 3001, 10000, 100000};
     private static final String[] TEXTS = {
         "d", "n*7+l", "(a>20)*s", "s*x", "s/2+d-l", "w/30*(r+1)", "100-l", "((d>3)*50+(n=1)*25)", "20", "5+r", "0-3",
         "99999*99999*99999", "7/0+3", "(((((1)))))", "((((((1))))))", "1+", "(1<2<3)", "12a", "a1", "()", "3>2", "w)",
         "123456", "(w=1", "l+d*n", "x*100", "(s<50)*s+(x=1)*(s>49)*40", "30", "1", "0", "60-10-5", "0-7/2*2", "q", "W"};
+
+    /** Kinds of calls that fill something up: men, voyages, HAPPENINGS, AGREEMENTS, ACTS, FINES, SHORT, the row. */
+    private static final int[][] CROWDS = {{2}, {3, 4}, {6, 9, 11}, {13, 13, 16}, {32}, {22}, {27}, {51}};
 
     private final Random random;
     private final ShipOffice office = new ShipOffice();
@@ -17,6 +20,8 @@ public final class ModelTest {
     private final int oddness;
     /** How many days go by at most in one call. */
     private final int pace;
+    /** The kinds that most calls of this run are of; null in an even run. */
+    private final int[] crowd;
     private String call = "";
     private long got;
     private long due;
@@ -25,6 +30,7 @@ public final class ModelTest {
         random = new Random(seed);
         oddness = seed % 4 == 0 ? 10 : 2;
         pace = new int[] {2, 8, 20, 40}[seed / 4 % 4];
+        crowd = seed % 5 == 4 ? CROWDS[seed / 5 % CROWDS.length] : null;
     }
 
     public static void main(String[] args) {
@@ -38,8 +44,7 @@ public final class ModelTest {
 
     private boolean agrees(int seed) {
         for (int i = 0; i < CALLS; i++) {
-            int kind = i < 90 ? early(i) : random.nextInt(56);
-            one(kind);
+            one(i < 90 ? early(i) : later());
             if (got != due) {
                 System.out.println("run " + seed + ", call " + i + ": " + call + " answered " + got + ", due is " + due);
                 return false;
@@ -54,9 +59,18 @@ public final class ModelTest {
         return new int[] {0, 2, 3, 13, 13, 13, 13, 13, 29, 29, 17, 17, 19, 19, 22, 27}[random.nextInt(16)];
     }
 
+    private int later() {
+        boolean crowded = crowd != null && random.nextInt(4) > 0;
+        return crowded ? crowd[random.nextInt(crowd.length)] : random.nextInt(56);
+    }
+
     /** What ends a voyage or an agreement is told to nobody mostly: else all runs end early. */
     private int seldom(int number) {
-        return random.nextInt(6) > 0 ? -1 : number;
+        return crowd == null && random.nextInt(6) > 0 ? -1 : number;
+    }
+
+    private int seldomOff(int agreement) {
+        return crowd == null && random.nextInt(2) > 0 ? -1 : agreement;
     }
 
     private int some(int low, int high) {
@@ -166,7 +180,7 @@ public final class ModelTest {
         int i = some(0, a >= 0 && a < plain.pacts.size() ? plain.pacts.get(a).fines.size() - 1 : 2);
         switch (kind) {
             case 14, 15 -> signOne(someMan(), someVoyage());
-            case 16 -> { int p = port(); a = random.nextInt(2) == 0 ? a : -1; said("off", a, p); gave(office.off(a, p), plain.off(a, p)); }
+            case 16 -> { int p = port(); a = seldomOff(a); said("off", a, p); gave(office.off(a, p), plain.off(a, p)); }
             case 17, 18 -> { int s = some(1, 3000); said("advance", a, s); gave(office.advance(a, s), plain.advance(a, s)); }
             case 19, 20 -> { int s = some(1, 900); said("allot", a, s); gave(office.allot(a, s), plain.allot(a, s)); }
             case 21 -> { int s = some(0, 2000); said("sold", a, s); gave(office.sold(a, s), plain.sold(a, s)); }
