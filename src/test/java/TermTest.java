@@ -39,6 +39,7 @@ public final class TermTest {
         presume();
         presumeOfThatDay();
         earning();
+        earningUpToLost();
         earningWhenNotKnown();
         sailedAheadOfSigning();
         notePaid();
@@ -512,6 +513,27 @@ public final class TermTest {
         x.days(3000);
         due("3001", x.earns(0, 3000, 3000), 3001);
         due("OWED", x.owed(0, 3000, 3000), 300100);
+    }
+
+    private static void earningUpToLost() {
+        for (int heard : new int[] {0, 5, 20}) {
+            ShipOffice x = signedOne("DAYS that earn, up to LOST, HEARD of on " + heard);
+            Bounds.act(x, 1, 0, "d");
+            x.days(40);
+            x.sailed(0, 5);
+            if (heard > 0) x.heard(0, heard);
+            x.days(1);
+            x.lost(0, 30);
+            due("up to LOST", x.earns(0, 29, 41), 30);
+            due("not on LOST", x.earns(0, 30, 41), 30);
+            due("nor behind it", x.earns(0, 41, 41), 30);
+            due("as known ahead of it", x.earns(0, 40, 40), 41);
+            int[][] rows = {{4, 0}, {5, 1}, {29, 25}, {30, 25}, {41, 25}};
+            for (int i = 0; i < rows.length; i++) {
+                x.fine(0, rows[i][0], 9999, false);
+                due("d on " + rows[i][0], x.stands(0, i, 41), rows[i][1]);
+            }
+        }
     }
 
     private static void earningWhenNotKnown() {
