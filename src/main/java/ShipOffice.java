@@ -182,7 +182,7 @@ public final class ShipOffice {
         if (no != 0) {
             return refuse(no);
         }
-        v.heardOf = new Happening(HEARD, day, now, v.heardOf);
+        v.heardOf = new Happening(HEARD, day, now, NONE, NONE, v.heardOf);
         happeningCount++;
         return happeningCount;
     }
@@ -214,10 +214,7 @@ public final class ShipOffice {
         if (no != 0) {
             return refuse(no);
         }
-        int all = addTiding(a, LEFT, day);
-        a.tidings.way = way;
-        a.tidings.port = port;
-        return all;
+        return addTiding(a, LEFT, day, way, port);
     }
 
     public int died(int agreement, int day) {
@@ -230,7 +227,7 @@ public final class ShipOffice {
             return refuse(no);
         }
         a.isDead = true;
-        return addTiding(a, DIED, day);
+        return addTiding(a, DIED, day, NONE, NONE);
     }
 
     public int back(int agreement, int day) {
@@ -242,7 +239,7 @@ public final class ShipOffice {
         if (no != 0) {
             return refuse(no);
         }
-        return addTiding(a, BACK, day);
+        return addTiding(a, BACK, day, NONE, NONE);
     }
 
     public int feed(int n, long bytes) {
@@ -693,8 +690,8 @@ public final class ShipOffice {
         return j > k || k > now ? STATE : 0;
     }
 
-    private int addTiding(Agreement a, int kind, int day) {
-        a.tidings = new Happening(kind, day, now, a.tidings);
+    private int addTiding(Agreement a, int kind, int day, int way, int port) {
+        a.tidings = new Happening(kind, day, now, way, port, a.tidings);
         happeningCount++;
         return happeningCount;
     }
@@ -893,14 +890,17 @@ public final class ShipOffice {
         final int kind;
         final int day;
         final int told;
+        /** Only of LEFT, as is the port; else NONE. */
+        final int way;
+        final int port;
         final Happening before;
-        int way;
-        int port;
 
-        Happening(int kind, int day, int told, Happening before) {
+        Happening(int kind, int day, int told, int way, int port, Happening before) {
             this.kind = kind;
             this.day = day;
             this.told = told;
+            this.way = way;
+            this.port = port;
             this.before = before;
         }
     }

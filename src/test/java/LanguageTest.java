@@ -27,11 +27,18 @@ public final class LanguageTest {
         "\\bthrow\\b", "\\btry\\b", "\\bcatch\\b", "\\bsynchronized\\b", "\\bassert\\b", "->", "::", "\\bequals\\b",
         "\\bhashCode\\b", "\\btoString\\b", "\\w+Exact\\b", "\\bprotected\\b", "^package\\b", "\\bSystem\\.(?!arraycopy)",
         "\\bwhile\\s*\\(true\\)", "\\bMAX_VALUE\\b", "\\bMIN_VALUE\\b"};
+    /** All of the library that rule 4 lists and that a class without texts and lists can want. */
+    private static final Set<String> LIBRARY = Set.of("Arrays.fill", "Arrays.copyOf", "Arrays.copyOfRange",
+        "System.arraycopy", "Math.min", "Math.max", "Math.abs", "Math.floorDiv", "Math.floorMod");
+    private static final int LONGEST_METHOD = 60;
+    private static final int MOST_FIELDS = 20;
     private static final List<String> faults = new ArrayList<>();
 
     public static void main(String[] args) throws IOException {
         face();
         nested();
+        members(ShipOffice.class);
+        for (Class<?> c : ShipOffice.class.getDeclaredClasses()) members(c);
         source(Files.readString(Path.of("src/main/java/ShipOffice.java")));
         faults.forEach(System.out::println);
         System.out.println(faults.isEmpty() ? "the language is kept" : faults.size() + " faults of language");
@@ -73,15 +80,26 @@ public final class LanguageTest {
         for (Class<?> c : inside) {
             fault(!Modifier.isStatic(c.getModifiers()), c + " is not static");
             fault(Modifier.isPublic(c.getModifiers()), c + " is public");
-            int own = 0;
-            for (Field f : c.getDeclaredFields()) {
-                boolean isStatic = Modifier.isStatic(f.getModifiers());
-                fault(isStatic && !Modifier.isFinal(f.getModifiers()), f + " is static and not final");
-                if (!isStatic) own++;
-            }
-            fault(own > 20, c + " has more than twenty fields");
-            for (Method m : c.getDeclaredMethods()) fault(m.getParameterCount() > 7, m + " takes more than seven");
+            fault(c.getDeclaredClasses().length > 0, c + " has classes inside");
         }
+    }
+
+    private static void members(Class<?> c) {
+        int own = 0;
+        for (Field f : c.getDeclaredFields()) {
+            boolean isStatic = Modifier.isStatic(f.getModifiers());
+            fault(isStatic && !Modifier.isFinal(f.getModifiers()), f + " is static and not final");
+            fault(isStatic && !isConstant(f.getType()), f + " is static and no constant that rule 5 lets");
+            if (!isStatic) own++;
+        }
+        fault(own > MOST_FIELDS, c + " has more than twenty fields");
+        for (Method m : c.getDeclaredMethods()) fault(m.getParameterCount() > 7, m + " takes more than seven");
+        for (Constructor<?> k : c.getDeclaredConstructors()) fault(k.getParameterCount() > 7, k + " takes more than seven");
+    }
+
+    private static boolean isConstant(Class<?> type) {
+        return Set.of(int.class, long.class, boolean.class, char.class, String.class,
+            int[].class, long[].class, char[].class, byte[].class).contains(type);
     }
 
     private static void source(String text) {
@@ -94,5 +112,24 @@ public final class LanguageTest {
         while (m.find()) {
             fault(!Set.of("java.util.Arrays", "java.util.ArrayList", "java.util.List").contains(m.group(1)), "import of " + m.group(1));
         }
+        m = Pattern.compile("\\b(?:Arrays|System|Math|Integer|Long|Character|String|Objects)\\.\\w+").matcher(code);
+        while (m.find()) fault(!LIBRARY.contains(m.group()), "the source calls " + m.group());
+        lengths(text.split("\n"));
+    }
+
+    /** A method begins on a line of one or two steps in that ends with "{", and ends with "}" as far in. */
+    private static void lengths(String[] lines) {
+        Pattern head = Pattern.compile("( {4}| {8})[a-zA-Z][^=;]*\\) \\{");
+        Pattern inner = Pattern.compile(" *(if|for|while|switch|do)\\b.*");
+        int seen = 0;
+        for (int i = 0; i < lines.length; i++) {
+            Matcher m = head.matcher(lines[i]);
+            if (!m.matches() || inner.matcher(lines[i]).matches()) continue;
+            int end = i;
+            while (end < lines.length && !lines[end].equals(m.group(1) + "}")) end++;
+            seen++;
+            fault(end - i + 1 > LONGEST_METHOD, "a method of " + (end - i + 1) + " lines: " + lines[i].trim());
+        }
+        fault(seen < FACE.length, "only " + seen + " methods were found");
     }
 }
